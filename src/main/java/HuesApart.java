@@ -370,8 +370,7 @@ public final class HuesApart {
             case 'f':
                 return whyNotFixed(first, second);
             case 'l':
-                int why = whyNoLimit(LOW, first);
-                return why != FINE ? why : whyNoLimit(HIGH, second);
+                return whyNoLimit(LOW, first) != FINE ? BAD : whyNoLimit(HIGH, second);
             case 'p':
                 return whyNoFilling(first);
             default:

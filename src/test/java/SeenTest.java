@@ -132,6 +132,18 @@ public final class SeenTest {
         check.due("DISTANCE has no sign", x.distance(1, black, black), 0);
         x.eye(1, 5, 0);
         check.due("0 * 1 is 0f", x.seen(1, blue, 1), 0);
+        x.eye(1, 5, -300);
+        for (int k = 3; k < 6; k++) {
+            x.eye(1, k, 0);
+            check.due("column " + (k - 3) + " is 0", x.seen(1, black, 1), 0);
+            x.eye(1, k, -2);
+        }
+        for (int k = 0; k < 3; k++) {
+            int i = x.colour(k == 0 ? 1 : 0, k == 1 ? 1 : 0, k == 2 ? 1 : 0);
+            int another = x.colour(0, 0, 0);
+            check.dueFloat("channel " + k + " is 1", x.seen(1, i, 1), -0.02f);
+            check.dueFloat("a later black", x.seen(1, another, 1), -0f);
+        }
     }
 
     private static void distance() {

@@ -10,6 +10,7 @@ public final class TextsTest {
         nothingCounts();
         longTexts();
         back();
+        backAfterTextsThatDidNothing();
         told();
         digest();
         check.end();
@@ -203,6 +204,19 @@ public final class TextsTest {
         check.due("LOW", x.told(3), 50);
         check.due("back()", x.back(), 0);
         check.due("LOW", x.told(3), 2);
+    }
+
+    /** A text that ends all must not touch the STATES, also if there are as many as can be. */
+    private static void backAfterTextsThatDidNothing() {
+        HuesApart x = new HuesApart();
+        for (int i = 0; i < 9; i++) {
+            x.sets(0, i + 1);
+            check.due("ends all", does(x, "l 99 99;p9;"), -1001);
+        }
+        for (int left = 4; left >= 0; left--) {
+            check.due("back()", x.back(), left);
+            check.due("LOW", x.told(3), left + 4);
+        }
     }
 
     private static void told() {
