@@ -4,14 +4,15 @@ import java.util.Random;
 public final class AgreementTest {
     private static final Check check = new Check("AgreementTest");
     private static final int RUNS = 400;
-    private static final int CALLS = 512;
+    /** The digest at the end of a run is the 512th call, behind which nothing is promised. */
+    private static final int CALLS = 511;
     private static final String[] NAMES = {
         "colour", "paints", "ground", "eye", "sets", "fixes", "of", "look", "light", "seen", "distance", "apart",
         "fills", "swaps", "palette", "least", "nearest", "best", "mistaken", "count", "does", "back", "told", "digest"};
     private static final int[] EXTREMES = {Integer.MIN_VALUE, Integer.MAX_VALUE, -1, 256, 1 << 30, -300, 301, 10000, 20, 9};
 
     private final Random dice;
-    private final HuesApart real = new HuesApart();
+    private final Hues real = new Hues();
     private final PlainHues plain = new PlainHues();
     /** Channels come from few or many values, so that some runs are full of like ones. */
     private final int grain;

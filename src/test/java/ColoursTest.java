@@ -15,7 +15,7 @@ public final class ColoursTest {
     }
 
     private static void newObject() {
-        HuesApart x = new HuesApart();
+        Hues x = new Hues();
         int[] told = {0, 0, 0, 0, 255, 0, 0, 0};
         int[] counts = {0, 0, 0, 0, 1, 255, 255, 255};
         for (int k = 0; k < 8; k++) {
@@ -36,7 +36,7 @@ public final class ColoursTest {
     }
 
     private static void colour() {
-        HuesApart x = new HuesApart();
+        Hues x = new Hues();
         for (int wrong : OUTSIDE) {
             check.refused("colour r", x, HuesApart.BAD, y -> y.colour(wrong, 0, 0));
             check.refused("colour g", x, HuesApart.BAD, y -> y.colour(0, wrong, 0));
@@ -57,7 +57,7 @@ public final class ColoursTest {
     }
 
     private static void paints() {
-        HuesApart x = new HuesApart();
+        Hues x = new Hues();
         check.refused("no COLOUR yet", x, HuesApart.BAD, y -> y.paints(0, 0, 0, 0));
         x.colour(1, 2, 3);
         x.colour(4, 5, 6);
@@ -82,7 +82,7 @@ public final class ColoursTest {
     }
 
     private static void ground() {
-        HuesApart x = new HuesApart();
+        Hues x = new Hues();
         for (int wrong : OUTSIDE) {
             check.refused("ground r", x, HuesApart.BAD, y -> y.ground(wrong, 0, 0));
             check.refused("ground g", x, HuesApart.BAD, y -> y.ground(0, wrong, 0));
@@ -100,32 +100,36 @@ public final class ColoursTest {
     }
 
     private static void eye() {
-        HuesApart x = new HuesApart();
+        Hues x = new Hues();
         check.refused("e", x, HuesApart.BAD, y -> y.eye(4, 0, 0));
         check.refused("e", x, HuesApart.BAD, y -> y.eye(-1, 0, 0));
         check.refused("k", x, HuesApart.BAD, y -> y.eye(0, 13, 0));
         check.refused("k", x, HuesApart.BAD, y -> y.eye(0, -1, 0));
         for (int k = 0; k <= 12; k++) {
-            int at = k;
-            int low = k < 9 ? -300 : 0;
-            int high = k < 9 ? 300 : k < 12 ? 9 : 1;
-            int first = k == 12 ? 0 : k > 8 ? 1 : k % 4 == 0 ? 100 : 0;
-            check.refused("v", x, HuesApart.BAD, y -> y.eye(2, at, low - 1));
-            check.refused("v", x, HuesApart.BAD, y -> y.eye(2, at, high + 1));
-            check.due("what it was", x.eye(2, k, low), first);
-            check.due("look", x.look(2, k), low);
-            check.due("what it was", x.eye(2, k, high), low);
-            check.due("what it was", x.eye(2, k, high), high);
-            check.due("STATES", x.told(7), Math.min(3 * k + 3, 5));
-            check.due("other EYE", x.look(3, k), first);
+            eyeNumber(k);
         }
+    }
+
+    private static void eyeNumber(int k) {
+        Hues x = new Hues();
+        int low = k < 9 ? -300 : 0;
+        int high = k < 9 ? 300 : k < 12 ? 9 : 1;
+        int first = k == 12 ? 0 : k > 8 ? 1 : k % 4 == 0 ? 100 : 0;
+        check.refused("v", x, HuesApart.BAD, y -> y.eye(2, k, low - 1));
+        check.refused("v", x, HuesApart.BAD, y -> y.eye(2, k, high + 1));
+        check.due("what it was", x.eye(2, k, low), first);
+        check.due("look", x.look(2, k), low);
+        check.due("what it was", x.eye(2, k, high), low);
+        check.due("what it was", x.eye(2, k, high), high);
+        check.due("STATES", x.told(7), 3);
+        check.due("other EYE", x.look(3, k), first);
         x.back();
         x.back();
-        check.due("back", x.look(2, 12), 0);
+        check.due("back", x.look(2, k), low);
     }
 
     private static void sets() {
-        HuesApart x = new HuesApart();
+        Hues x = new Hues();
         int[] first = {0, 255, 0};
         for (int what = 0; what < 3; what++) {
             int k = what;
@@ -147,7 +151,7 @@ public final class ColoursTest {
     }
 
     private static void fixes() {
-        HuesApart x = new HuesApart();
+        Hues x = new Hues();
         check.refused("no COLOUR yet", x, HuesApart.BAD, y -> y.fixes(0, 1));
         for (int i = 0; i < 20; i++) {
             x.colour(i, i, i);

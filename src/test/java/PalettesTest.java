@@ -18,64 +18,46 @@ public final class PalettesTest {
         check.end();
     }
 
-    /** COLOURS that differ in R alone: with EYE 0 as at first APART is the square of the step. */
-    private static HuesApart reds(int... reds) {
-        HuesApart x = new HuesApart();
-        for (int red : reds) {
-            x.colour(red, 0, 0);
-        }
-        return x;
-    }
-
-    private static void row(String what, HuesApart x, int... want) {
-        check.due(what + ": length", x.count(3), want.length);
-        for (int place = 0; place < want.length; place++) {
-            check.due(what + ": palette(" + place + ")", x.palette(place), want[place]);
-            check.due(what + ": place", x.of(want[place], 5), place);
-        }
-        check.due(what + ": behind it", x.palette(want.length), HuesApart.NONE);
-    }
-
     private static void fills() {
-        HuesApart none = new HuesApart();
+        Hues none = new Hues();
         check.due("no COLOURS", none.fills(3), 0);
         check.due("leaves a STATE", none.told(7), 1);
-        HuesApart x = reds(10, 200, 100, 200, 0);
+        Hues x = Hues.reds(10, 200, 100, 200, 0);
         check.due("fills(1)", x.fills(1), 1);
-        row("the lightest, of like ones the first", x, 1);
+        check.dueRow("the lightest, of like ones the first", x, 1);
         check.due("fills(3)", x.fills(3), 3);
-        row("the farthest, the middle", x, 1, 4, 2);
+        check.dueRow("the farthest, the middle", x, 1, 4, 2);
         check.due("fills(8)", x.fills(8), 5);
-        row("all", x, 1, 4, 2, 0, 3);
-        HuesApart ties = reds(100, 0, 200, 100);
+        check.dueRow("all", x, 1, 4, 2, 0, 3);
+        Hues ties = Hues.reds(100, 0, 200, 100);
         ties.fills(4);
-        row("of like ones the least number", ties, 2, 1, 0, 3);
+        check.dueRow("of like ones the least number", ties, 2, 1, 0, 3);
         x.sets(1, 29);
         check.due("some FIT", x.fills(8), 2);
-        row("those that FIT", x, 0, 4);
+        check.dueRow("those that FIT", x, 0, 4);
         x.sets(0, 31);
         check.due("none FITS", x.fills(8), 0);
-        row("empty", x);
+        check.dueRow("empty", x);
         x.back();
-        row("back", x, 0, 4);
+        check.dueRow("back", x, 0, 4);
     }
 
     private static void fillsWithFixedOnes() {
-        HuesApart x = reds(10, 200, 100, 150, 0);
+        Hues x = Hues.reds(10, 200, 100, 150, 0);
         x.sets(0, 20);
         x.fixes(4, 1);
         x.fixes(0, 1);
         check.due("fills(2)", x.fills(2), 2);
-        row("rising, whether they FIT or not", x, 0, 4);
+        check.dueRow("rising, whether they FIT or not", x, 0, 4);
         check.due("fills(4)", x.fills(4), 4);
-        row("the farthest behind them", x, 0, 4, 1, 2);
+        check.dueRow("the farthest behind them", x, 0, 4, 1, 2);
         x.sets(0, 255);
         check.due("no other FITS", x.fills(8), 2);
-        row("FIXED ones alone", x, 0, 4);
+        check.dueRow("FIXED ones alone", x, 0, 4);
     }
 
     private static void fillsRefused() {
-        HuesApart x = reds(1, 2, 3, 4, 5, 6, 7, 8, 9);
+        Hues x = Hues.reds(1, 2, 3, 4, 5, 6, 7, 8, 9);
         check.refused("n", x, HuesApart.BAD, y -> y.fills(0));
         check.refused("n", x, HuesApart.BAD, y -> y.fills(9));
         check.refused("n", x, HuesApart.BAD, y -> y.fills(Integer.MIN_VALUE));
@@ -84,46 +66,46 @@ public final class PalettesTest {
             x.fixes(i, 1);
         }
         check.refused("more than n FIXED", x, HuesApart.NO, y -> y.fills(7));
-        row("as it was", x, 8, 0);
+        check.dueRow("as it was", x, 8, 0);
         check.due("n FIXED", x.fills(8), 8);
         x.fixes(8, 1);
         check.refused("nine FIXED", x, HuesApart.NO, y -> y.fills(8));
         check.refused("BAD comes before NO", x, HuesApart.BAD, y -> y.fills(9));
-        row("as it was", x, 0, 1, 2, 3, 4, 5, 6, 7);
+        check.dueRow("as it was", x, 0, 1, 2, 3, 4, 5, 6, 7);
     }
 
     private static void swaps() {
-        HuesApart x = reds(0, 20, 40, 100, 250);
+        Hues x = Hues.reds(0, 20, 40, 100, 250);
         check.due("empty", x.swaps(), 0);
         check.due("leaves a STATE", x.told(7), 5);
         x.sets(1, 12);
         x.fills(3);
-        row("filled", x, 2, 0, 1);
+        check.dueRow("filled", x, 2, 0, 1);
         check.due("no other FITS", x.swaps(), 0);
         x.sets(1, 255);
         check.dueFloat("LEAST", x.least(), 400f);
         check.due("two", x.swaps(), 2);
-        row("3 to the third place first, then 4 to the first", x, 4, 0, 3);
+        check.dueRow("3 to the third place first, then 4 to the first", x, 4, 0, 3);
         check.dueFloat("LEAST", x.least(), 10000f);
         x.back();
-        row("back", x, 2, 0, 1);
-        HuesApart one = reds(0, 200);
+        check.dueRow("back", x, 2, 0, 1);
+        Hues one = Hues.reds(0, 200);
         one.fills(1);
         check.due("one alone is not exchanged", one.swaps(), 0);
-        row("one", one, 1);
+        check.dueRow("one", one, 1);
     }
 
     private static void swapsLeaveFixedOnes() {
-        HuesApart x = reds(0, 100, 120, 200);
+        Hues x = Hues.reds(0, 100, 120, 200);
         x.sets(1, 36);
         x.fills(2);
-        row("filled", x, 2, 0);
+        check.dueRow("filled", x, 2, 0);
         x.sets(1, 255);
         x.fixes(2, 1);
         check.due("the FIXED one stays", x.swaps(), 0);
         x.paints(3, 255, 0, 0);
         check.due("the other goes", x.swaps(), 1);
-        row("its place", x, 2, 3);
+        check.dueRow("its place", x, 2, 3);
         x.fixes(3, 1);
         x.paints(0, 0, 0, 255);
         check.due("both FIXED", x.swaps(), 0);
@@ -132,7 +114,7 @@ public final class PalettesTest {
         check.due("one that does not FIT does not come", x.swaps(), 0);
         x.sets(0, 0);
         check.due("it FITS", x.swaps(), 1);
-        row("its place", x, 2, 0);
+        check.dueRow("its place", x, 2, 0);
     }
 
     /** COLOURS found by a search, of which 63 swaps could be had one behind the other. */
@@ -143,7 +125,7 @@ public final class PalettesTest {
             165, 251, 140, 165, 245, 123, 249, 154, 2, 109, 0, 130, 51, 181, 192, 169, 245, 99};
         int[] eye = {254, 154, 4, -207, 190, 203, -199, -134, -30, 5, 5, 8};
         int[] first = {0, 2, 4, 7};
-        HuesApart x = new HuesApart();
+        Hues x = new Hues();
         for (int i = 0; i < 20; i++) {
             x.colour(rgb[3 * i], rgb[3 * i + 1], rgb[3 * i + 2]);
         }
@@ -157,14 +139,14 @@ public final class PalettesTest {
         for (int i : first) {
             x.fixes(i, 0);
         }
-        row("to begin with", x, first);
+        check.dueRow("to begin with", x, first);
         check.due("60 at most", x.swaps(), 60);
         check.due("three are left", x.swaps(), 3);
         check.due("none is left", x.swaps(), 0);
     }
 
     private static void palette() {
-        HuesApart x = reds(5, 6);
+        Hues x = Hues.reds(5, 6);
         x.fills(2);
         check.due("first", x.palette(0), 1);
         check.due("second", x.palette(1), 0);
@@ -175,7 +157,7 @@ public final class PalettesTest {
     }
 
     private static void leastAndNearest() {
-        HuesApart x = reds(200, 0, 100, 50);
+        Hues x = Hues.reds(200, 0, 100, 50);
         x.fills(1);
         check.due("one: least", x.least(), 0);
         check.due("one: nearest", x.nearest(), HuesApart.NONE);
@@ -183,7 +165,7 @@ public final class PalettesTest {
         check.dueFloat("two: least", x.least(), 40000f);
         check.due("two: nearest", x.nearest(), 1);
         x.fills(4);
-        row("four", x, 0, 1, 2, 3);
+        check.dueRow("four", x, 0, 1, 2, 3);
         check.dueFloat("four: least", x.least(), 2500f);
         check.due("four: the first i of like ones", x.nearest(), 13);
         x.paints(1, 100, 0, 0);
@@ -191,7 +173,7 @@ public final class PalettesTest {
         check.due("like COLOURS are 0f APART", x.least(), 0);
         x.eye(0, 12, 0);
         check.due("none COUNTS: nearest", x.nearest(), 1);
-        HuesApart eight = reds(0, 30, 60, 90, 120, 150, 180, 181);
+        Hues eight = Hues.reds(0, 30, 60, 90, 120, 150, 180, 181);
         for (int i = 0; i < 8; i++) {
             eight.fixes(i, 1);
         }
@@ -200,12 +182,12 @@ public final class PalettesTest {
     }
 
     private static void best() {
-        HuesApart none = new HuesApart();
+        Hues none = new Hues();
         check.due("no COLOURS", none.best(1), HuesApart.NONE);
         check.refused("n", none, HuesApart.BAD, y -> y.best(0));
         check.refused("n", none, HuesApart.BAD, y -> y.best(5));
         check.refused("n", none, HuesApart.BAD, y -> y.best(Integer.MAX_VALUE));
-        HuesApart x = reds(0, 50, 100, 150, 200);
+        Hues x = Hues.reds(0, 50, 100, 150, 200);
         check.due("best(1): least as bits", x.best(1), 1);
         check.due("best(2)", x.best(2), 1 | 1 << 4);
         check.due("best(3)", x.best(3), 1 | 1 << 2 | 1 << 4);
@@ -227,7 +209,7 @@ public final class PalettesTest {
 
     /** The last of all sets of four is the best one, so each of them must have been tried. */
     private static void bestOfTwenty() {
-        HuesApart x = new HuesApart();
+        Hues x = new Hues();
         for (int i = 0; i < 16; i++) {
             x.colour(100 + i, 100, 100);
         }
@@ -242,7 +224,7 @@ public final class PalettesTest {
     }
 
     private static void mistaken() {
-        HuesApart x = reds(200, 100, 101, 103);
+        Hues x = Hues.reds(200, 100, 101, 103);
         check.due("empty", x.mistaken(0, 9999), 0);
         x.fills(4);
         check.due("below, not at", x.mistaken(0, 1), 0);
@@ -261,7 +243,7 @@ public final class PalettesTest {
     }
 
     private static void count() {
-        HuesApart x = reds(0, 100, 200);
+        Hues x = Hues.reds(0, 100, 200);
         x.fixes(2, 1);
         x.fixes(0, 1);
         x.sets(0, 20);

@@ -15,7 +15,7 @@ public final class SeenTest {
     }
 
     private static void of() {
-        HuesApart x = new HuesApart();
+        Hues x = new Hues();
         check.refused("no COLOUR yet", x, HuesApart.BAD, y -> y.of(0, 0));
         x.colour(10, 20, 30);
         x.colour(200, 210, 220);
@@ -33,7 +33,7 @@ public final class SeenTest {
     }
 
     private static void fits() {
-        HuesApart x = new HuesApart();
+        Hues x = new Hues();
         x.colour(0, 0, 0);
         x.colour(50, 50, 50);
         x.colour(255, 255, 255);
@@ -65,7 +65,7 @@ public final class SeenTest {
     }
 
     private static void look() {
-        HuesApart x = new HuesApart();
+        Hues x = new Hues();
         check.refused("e", x, HuesApart.BAD, y -> y.look(4, 0));
         check.refused("e", x, HuesApart.BAD, y -> y.look(-1, 0));
         check.refused("k", x, HuesApart.BAD, y -> y.look(0, 13));
@@ -80,7 +80,7 @@ public final class SeenTest {
     }
 
     private static void light() {
-        HuesApart x = new HuesApart();
+        Hues x = new Hues();
         check.refused("no COLOUR yet", x, HuesApart.BAD, y -> y.light(0));
         int[] parts = {0, 1, 2, 7, 100, 127, 128, 254, 255};
         int i = x.colour(0, 0, 0);
@@ -96,7 +96,7 @@ public final class SeenTest {
     }
 
     private static void seen() {
-        HuesApart x = new HuesApart();
+        Hues x = new Hues();
         int i = x.colour(13, 77, 251);
         int[] numbers = {-300, -299, -7, -1, 0, 1, 3, 33, 300};
         for (int k = 0; k < 3; k++) {
@@ -119,7 +119,7 @@ public final class SeenTest {
 
     /** A sum of terms that are all -0f is -0f, and its bits say so. */
     private static void minusZero() {
-        HuesApart x = new HuesApart();
+        Hues x = new Hues();
         int black = x.colour(0, 0, 0);
         int blue = x.colour(0, 0, 1);
         for (int k = 3; k < 6; k++) {
@@ -147,7 +147,7 @@ public final class SeenTest {
     }
 
     private static void distance() {
-        HuesApart x = new HuesApart();
+        Hues x = new Hues();
         x.colour(10, 200, 33);
         x.colour(90, 7, 34);
         check.dueFloat("as at first", x.distance(0, 0, 1), (6400f + 193f * 193f) + 1f);
@@ -169,7 +169,7 @@ public final class SeenTest {
     }
 
     private static void apart() {
-        HuesApart x = new HuesApart();
+        Hues x = new Hues();
         x.colour(10, 0, 0);
         x.colour(0, 30, 0);
         check.dueFloat("EYE 0 alone", x.apart(0, 1), 1000f);

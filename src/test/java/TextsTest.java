@@ -16,20 +16,8 @@ public final class TextsTest {
         check.end();
     }
 
-    private static void put(HuesApart x, String text) {
-        x.clear();
-        for (int k = 0; k < text.length(); k++) {
-            x.type(text.charAt(k));
-        }
-    }
-
-    private static int does(HuesApart x, String text) {
-        put(x, text);
-        return x.does();
-    }
-
     private static void typeAndClear() {
-        HuesApart x = new HuesApart();
+        Hues x = new Hues();
         check.due("nothing to clear", x.clear(), 0);
         check.refused("c", x, HuesApart.BAD, y -> y.type(-1));
         check.refused("c", x, HuesApart.BAD, y -> y.type(128));
@@ -46,23 +34,23 @@ public final class TextsTest {
     }
 
     private static void orders() {
-        HuesApart x = new HuesApart();
-        check.due("a COLOUR", does(x, "c01abef;"), 1);
+        Hues x = new Hues();
+        check.due("a COLOUR", x.doText("c01abef;"), 1);
         check.due("R", x.of(0, 0), 0x01);
         check.due("G", x.of(0, 1), 0xab);
         check.due("B", x.of(0, 2), 0xef);
         check.due("THE TEXT stays", x.told(6), 8);
         check.due("once more", x.does(), 1);
         check.due("COLOURS", x.count(0), 2);
-        check.due("blanks anywhere", does(x, "  c  102030  ;  f 0 1;f 1 001 ; f0  0;  "), 4);
+        check.due("blanks anywhere", x.doText("  c  102030  ;  f 0 1;f 1 001 ; f0  0;  "), 4);
         check.due("FIXED", x.count(2), 2);
-        check.due("limits", does(x, "l5 200;l 007 20;"), 2);
+        check.due("limits", x.doText("l5 200;l 007 20;"), 2);
         check.due("LOW", x.told(3), 7);
         check.due("HIGH", x.told(4), 20);
-        check.due("LOW above HIGH", does(x, "l255 0;"), 1);
+        check.due("LOW above HIGH", x.doText("l255 0;"), 1);
         check.due("LOW", x.told(3), 255);
         check.due("HIGH", x.told(4), 0);
-        check.due("fills, swaps", does(x, "l0 255;cffffff;c000000;f1 0;p 3 ; s ;"), 6);
+        check.due("fills, swaps", x.doText("l0 255;cffffff;c000000;f1 0;p 3 ; s ;"), 6);
         check.due("palette", x.palette(0), 3);
         check.due("palette", x.palette(1), 4);
         check.due("one STATE for all", x.told(7), 5);
@@ -73,9 +61,9 @@ public final class TextsTest {
     }
 
     private static void fault(String text, int place) {
-        HuesApart x = new HuesApart();
+        Hues x = new Hues();
         x.colour(0, 0, 0);
-        check.due("'" + text + "'", does(x, text), -10 - place);
+        check.due("'" + text + "'", x.doText(text), -10 - place);
         check.due("'" + text + "': no STATE", x.told(7), 1);
         check.due("'" + text + "': COLOURS", x.count(0), 1);
         check.due("'" + text + "': THE TEXT stays", x.told(6), text.length());
@@ -133,56 +121,57 @@ public final class TextsTest {
     }
 
     private static void ordersThatEndAll() {
-        HuesApart x = new HuesApart();
+        Hues x = new Hues();
         x.colour(9, 9, 9);
         String[] texts = {"p0;", "p9;", "f1 1;", "f0 2;", "l256 1;", "l1 256;", "l1 999;"};
         for (String text : texts) {
-            check.due(text, does(x, text), -1000);
-            check.due("behind others: " + text, does(x, "c000000; l1 2;f 0 1;" + text.replace("f1", "f2")), -1003);
+            check.due(text, x.doText(text), -1000);
+            check.due("behind others: " + text, x.doText("c000000; l1 2;f 0 1;" + text.replace("f1", "f2")), -1003);
             check.due("no STATE", x.told(7), 1);
             check.due("COLOURS", x.count(0), 1);
             check.due("FIXED", x.count(2), 0);
             check.due("LOW", x.told(3), 0);
             check.due("HIGH", x.told(4), 255);
         }
-        check.due("an ORDER sees what those before it did", does(x, "c000000;f1 1;"), 2);
-        check.due("more than n FIXED", does(x, "f0 1;p1;s;"), -1001);
-        check.due("as many as n FIXED", does(x, "f0 1;p2;s;"), 3);
-        check.due("THE PALETTE comes back, too", does(x, "f0 0;f1 0;p1;p9;"), -1003);
+        check.due("an ORDER sees what those before it did", x.doText("c000000;f1 1;"), 2);
+        check.due("more than n FIXED", x.doText("f0 1;p1;s;"), -1001);
+        check.due("as many as n FIXED", x.doText("f0 1;p2;s;"), 3);
+        check.due("THE PALETTE comes back, too", x.doText("f0 0;f1 0;p1;p9;"), -1003);
         check.due("THE PALETTE", x.count(3), 2);
         check.due("FIXED", x.count(2), 3);
     }
 
     private static void nothingCounts() {
-        HuesApart x = new HuesApart();
+        Hues x = new Hues();
         for (int i = 0; i < 20; i++) {
             x.colour(i, i, i);
         }
-        check.due("FULL", does(x, "s;c000000;"), -1001);
-        check.due("BAD", does(x, "f20 1;"), -1000);
+        check.due("FULL", x.doText("s;c000000;"), -1001);
+        check.due("BAD", x.doText("f20 1;"), -1000);
         x.fixes(0, 1);
         x.fixes(1, 1);
-        check.due("NO", does(x, "p1;"), -1000);
-        check.due("a FAULT", does(x, "?"), -10);
+        check.due("NO", x.doText("p1;"), -1000);
+        check.due("a FAULT", x.doText("?"), -10);
         for (int k = 0; k < 3; k++) {
             check.due("told(" + k + ")", x.told(k), 0);
         }
     }
 
     private static void longTexts() {
-        HuesApart x = new HuesApart();
-        check.due("60 ORDERS", does(x, "s;".repeat(60)), 60);
+        Hues x = new Hues();
+        check.due("60 ORDERS", x.doText("s;".repeat(60)), 60);
         check.due("one STATE", x.told(7), 1);
-        check.due("a FAULT at the end", does(x, "s;".repeat(59) + "s "), -130);
-        check.due("a FAULT at the last byte", does(x, "s;".repeat(59) + "s?"), -129);
-        check.due("the last ORDER ends all", does(x, "s;".repeat(58) + "p9; "), -1058);
-        check.due("15 COLOURS", does(x, "c123456;".repeat(15)), 15);
+        check.due("a FAULT at the end", x.doText("s;".repeat(59) + "s "), -130);
+        check.due("a FAULT at the last byte", x.doText("s;".repeat(59) + "s?"), -129);
+        x = new Hues();
+        check.due("the last ORDER ends all", x.doText("s;".repeat(58) + "p9; "), -1058);
+        check.due("15 COLOURS", x.doText("c123456;".repeat(15)), 15);
         check.due("the 21st COLOUR ends all", x.does(), -1005);
         check.due("COLOURS", x.count(0), 15);
     }
 
     private static void back() {
-        HuesApart x = new HuesApart();
+        Hues x = new Hues();
         check.refused("none", x, HuesApart.NO, y -> y.back());
         for (int i = 0; i < 7; i++) {
             x.sets(0, i + 1);
@@ -208,10 +197,10 @@ public final class TextsTest {
 
     /** A text that ends all must not touch the STATES, also if there are as many as can be. */
     private static void backAfterTextsThatDidNothing() {
-        HuesApart x = new HuesApart();
+        Hues x = new Hues();
         for (int i = 0; i < 9; i++) {
             x.sets(0, i + 1);
-            check.due("ends all", does(x, "l 99 99;p9;"), -1001);
+            check.due("ends all", x.doText("l 99 99;p9;"), -1001);
         }
         for (int left = 4; left >= 0; left--) {
             check.due("back()", x.back(), left);
@@ -220,7 +209,7 @@ public final class TextsTest {
     }
 
     private static void told() {
-        HuesApart x = new HuesApart();
+        Hues x = new Hues();
         x.sets(0, 11);
         x.sets(1, 22);
         x.sets(2, 33);
@@ -241,7 +230,7 @@ public final class TextsTest {
     }
 
     private static void digest() {
-        HuesApart x = new HuesApart();
+        Hues x = new Hues();
         check.due("new", x.digest(), byHand(x));
         x.colour(1, 200, 3);
         x.colour(255, 0, 255);
@@ -260,7 +249,7 @@ public final class TextsTest {
         check.due("another", x.digest() == before ? 1 : 0, 0);
     }
 
-    private static long byHand(HuesApart x) {
+    private static long byHand(Hues x) {
         long h = 2619;
         for (int k = 0; k < 8; k++) {
             h = 31 * h + x.told(k);
