@@ -2,12 +2,31 @@ import java.util.function.ToIntFunction;
 
 /** Counts the answers that are not the ones that are due, and ends a test's main by them. */
 final class Check {
+    /** Some hundred times what the longest test takes. */
+    private static final long MOST_MILLISECONDS = 300_000;
+
     private final String test;
     private int asked;
     private int wrong;
 
     Check(String test) {
         this.test = test;
+        watch();
+    }
+
+    /** A call that fails to end would else hold up all other tests. */
+    private void watch() {
+        Thread watcher = new Thread(() -> {
+            try {
+                Thread.sleep(MOST_MILLISECONDS);
+            } catch (InterruptedException ended) {
+                return;
+            }
+            System.out.println(test + ": a call does not end");
+            Runtime.getRuntime().halt(1);
+        });
+        watcher.setDaemon(true);
+        watcher.start();
     }
 
     void due(String what, long got, long want) {

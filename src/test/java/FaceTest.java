@@ -22,12 +22,19 @@ public final class FaceTest {
         fields();
         TreeSet<String> names = methods();
         for (Class<?> inner : HuesApart.class.getDeclaredClasses()) {
-            check.due(inner + " is static", Modifier.isStatic(inner.getModifiers()) ? 1 : 0, 1);
-            for (Method m : inner.getDeclaredMethods()) {
-                check.due(inner + ": " + m.getName() + " is no name of the face", names.contains(m.getName()) ? 1 : 0, 0);
-            }
+            classInside(inner, names);
         }
         check.end();
+    }
+
+    /** Rule 1 of LANGUAGE.md: not seen from without, and static; no private method bears a name of the face. */
+    private static void classInside(Class<?> inner, TreeSet<String> names) {
+        check.due(inner + " is not public or protected", inner.getModifiers() & (Modifier.PUBLIC | Modifier.PROTECTED), 0);
+        check.due(inner + " is static", Modifier.isStatic(inner.getModifiers()) ? 1 : 0, 1);
+        for (Method m : inner.getDeclaredMethods()) {
+            boolean wrong = Modifier.isPrivate(m.getModifiers()) && names.contains(m.getName());
+            check.due(inner + ": " + m.getName() + " is no private one with a name of the face", wrong ? 1 : 0, 0);
+        }
     }
 
     private static void constructor() {

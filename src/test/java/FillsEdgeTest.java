@@ -22,6 +22,7 @@ public final class FillsEdgeTest {
         likeOnesTheLeastNumber();
         likeOnesIfNoEyeCounts();
         filledAnew();
+        staysUntilFilledOrSwapped();
         placesAndNone();
         check.end();
     }
@@ -91,6 +92,7 @@ public final class FillsEdgeTest {
         x.fixAll(1, 2, 0);
         x.sets(0, 50);
         check.due("they do not FIT", x.of(0, 4) + x.of(2, 4), 0);
+        check.due("how many FIT", x.count(1), 2);
         x.fills(2);
         check.dueRow("they do not FIT", x, 0, 2);
         x.fills(3);
@@ -251,6 +253,20 @@ public final class FillsEdgeTest {
         check.dueRow("not FIXED any more: it stays", x, 0);
         x.fills(1);
         check.dueRow("filled anew", x, 2);
+    }
+
+    private static void staysUntilFilledOrSwapped() {
+        Hues x = Hues.reds(10, 20, 250, 100);
+        x.fills(2);
+        x.paints(2, 0, 0, 0);
+        x.paints(3, 255, 255, 255);
+        x.sets(1, 0);
+        x.sets(2, 255);
+        x.ground(0, 0, 0);
+        x.fixes(3, 1);
+        x.eye(0, 12, 0);
+        x.colour(255, 0, 255);
+        check.dueRow("as it was filled", x, 2, 0);
     }
 
     private static void placesAndNone() {

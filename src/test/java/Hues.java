@@ -61,6 +61,35 @@ final class Hues {
         return does();
     }
 
+    /** digest() as the document tells it, by the other getters. */
+    long digestByHand() {
+        long h = 2619;
+        for (int k = 0; k < 8; k++) {
+            h = 31 * h + told(k);
+        }
+        for (int k = 0; k < 8; k++) {
+            h = 31 * h + count(k);
+        }
+        int colours = count(0);
+        for (int i = 0; i < colours; i++) {
+            for (int k = 0; k < 6; k++) {
+                h = 31 * h + of(i, k);
+            }
+            h = 31 * h + light(i);
+        }
+        for (int e = 0; e < 4; e++) {
+            for (int k = 0; k < 13; k++) {
+                h = 31 * h + look(e, k);
+            }
+        }
+        int row = count(3);
+        for (int place = 0; place < row; place++) {
+            h = 31 * h + palette(place);
+        }
+        h = 31 * h + least();
+        return 31 * h + nearest();
+    }
+
     int colour(int r, int g, int b) {
         return next().colour(r, g, b);
     }

@@ -36,6 +36,7 @@ public final class NumbersEdgeTest {
         type();
         told();
         callsWithoutNumbers();
+        howManyWereOther();
         numbersOfColoursGrowWithThem();
         numbersOfColoursGoBackWithThem();
         severalWrongNumbersCountOnce();
@@ -260,6 +261,31 @@ public final class NumbersEdgeTest {
             check.notRefused(situation + ": does() without a TEXT", x, y -> y.does());
             check.notRefused(situation + ": back()", x, y -> y.back());
         }
+    }
+
+    /** paints() and ground(): none, one, two or all three of R, G, B were other. */
+    private static void howManyWereOther() {
+        for (int bits = 0; bits < 8; bits++) {
+            for (int step = -1; step <= 1; step += 2) {
+                int r = 10 + step * (bits & 1);
+                int g = 20 + step * (bits >> 1 & 1);
+                int b = 30 + step * (bits >> 2 & 1);
+                Hues x = new Hues();
+                x.colour(40, 50, 60);
+                x.colour(10, 20, 30);
+                x.ground(10, 20, 30);
+                check.due("paints", x.paints(1, r, g, b), Integer.bitCount(bits));
+                check.due("ground", x.ground(r, g, b), Integer.bitCount(bits));
+                check.due("R", 1000 * x.of(1, 0) + x.count(5), 1001 * r);
+                check.due("G", 1000 * x.of(1, 1) + x.count(6), 1001 * g);
+                check.due("B", 1000 * x.of(1, 2) + x.count(7), 1001 * b);
+                check.due("the other COLOUR", x.of(0, 0) + x.of(0, 1) + x.of(0, 2), 150);
+            }
+        }
+        Hues like = new Hues();
+        like.colour(10, 20, 30);
+        check.due("like numbers at other places", like.paints(0, 20, 30, 10), 3);
+        check.due("like numbers at other places", like.paints(0, 30, 20, 10), 2);
     }
 
     private static void numbersOfColoursGrowWithThem() {

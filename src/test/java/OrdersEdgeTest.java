@@ -1,3 +1,5 @@
+import java.util.function.ToIntFunction;
+
 /**
  * The edges of ORDERS (document: Terms 2, "an ORDER that a call would refuse then ends all, nothing is
  * done", "By THE TEXT nothing counts"; promise 24): for each number of each ORDER the last one that is
@@ -17,10 +19,12 @@ public final class OrdersEdgeTest {
         lowThenHigh();
         fillsOneToEight();
         fillsWithFixedOnes();
+        fillsWithoutSwaps();
         swapsAreNeverRefused();
         numbersOfOrders();
         whichOneEndsAll();
         ordersAreDoneInTurn();
+        eachOrderIsAsItsCalls();
         anOrderThatEndsAllDoesNothing();
         byTheTextNothingCounts();
         oneStateForAll();
@@ -164,6 +168,14 @@ public final class OrdersEdgeTest {
         }
     }
 
+    private static void fillsWithoutSwaps() {
+        Hues x = Hues.with(0, 0, 0, 255, 255, 255, 255, 0, 0, 0, 255, 0, 0, 0, 255, 128, 128, 128);
+        taken("p4;", x, "p4;", 1);
+        check.dueRow("filled alone", x, 1, 0, 2, 3);
+        taken("p4;s;", x, "p4;s;", 2);
+        check.dueRow("swapped, too", x, 1, 4, 2, 3);
+    }
+
     private static void swapsAreNeverRefused() {
         taken("without COLOURS", new Hues(), "s;", 1);
         for (Situation situation : Situation.values()) {
@@ -195,6 +207,42 @@ public final class OrdersEdgeTest {
         x = Hues.reds(0, 50, 255);
         taken("fills, then swaps", x, "l0 15;p2;l0 255;s;", 4);
         check.dueRow("1, 0, then 2 to the first place", x, 2, 0);
+    }
+
+    /** Ten COLOURS of which the first five, a poor choice, are FIXED and in THE PALETTE. */
+    private static Hues fiveOfTen() {
+        Hues x = Hues.reds(0, 10, 20, 30, 40, 50, 130, 170, 210, 255);
+        x.fixAll(1, 0, 1, 2, 3, 4);
+        x.fills(5);
+        return x;
+    }
+
+    /** A TEXT done before leaves ORDERS of another kind behind, of which nothing may stay. */
+    private static void eachOrderIsAsItsCalls() {
+        for (String before : new String[] {"f0 1;", "f9 0;", "l9 1;l0 255;", "p8;", "cffffff;", "s;"}) {
+            asCalls(before, "c000001;", x -> x.colour(0, 0, 1));
+            asCalls(before, "c000004;", x -> x.colour(0, 0, 4));
+            asCalls(before, "cffffff;", x -> x.colour(255, 255, 255));
+            asCalls(before, "f0 0;", x -> x.fixes(0, 0));
+            asCalls(before, "f9 1;", x -> x.fixes(9, 1));
+            asCalls(before, "l3 4;", x -> x.sets(0, 3) + x.sets(1, 4));
+            asCalls(before, "p5;", x -> x.fills(5));
+            asCalls(before, "p7;", x -> x.fills(7));
+            asCalls(before, "s;", x -> x.swaps());
+        }
+    }
+
+    private static void asCalls(String before, String text, ToIntFunction<Hues> calls) {
+        Hues x = fiveOfTen();
+        Hues twin = fiveOfTen();
+        for (Hues each : new Hues[] {x, twin}) {
+            each.doText(before);
+            each.fixAll(0, 0, 1, 2);
+            each.write(text);
+        }
+        check.due(text, x.does(), 1);
+        calls.applyAsInt(twin);
+        check.like(before + " then " + text, new Snapshot(x).without("told 7"), new Snapshot(twin).without("told 7"));
     }
 
     private static void anOrderThatEndsAllDoesNothing() {
@@ -252,9 +300,11 @@ public final class OrdersEdgeTest {
         check.due("one STATE", x.told(7), 1);
         check.due("back", x.back(), 0);
         check.like("as at first", new Snapshot(x).without("told 6"), new Snapshot(new Hues()).without("told 6"));
-        x = new Hues();
-        taken("one that makes nothing other", x, "l 0 255;", 1);
-        check.due("one STATE", x.told(7), 1);
+        for (String text : new String[] {"l 0 255;", "s;", "p1;", "s;p8;s;"}) {
+            x = new Hues();
+            x.doText(text);
+            check.due("nothing becomes other by " + text + " but one STATE is left", x.told(7), 1);
+        }
         Hues busy = Situation.BUSY.make();
         taken("five already", busy, "l 0 255;s;p4;", 3);
         check.due("five still", busy.told(7), 5);

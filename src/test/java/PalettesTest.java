@@ -117,29 +117,9 @@ public final class PalettesTest {
         check.dueRow("its place", x, 2, 0);
     }
 
-    /** COLOURS found by a search, of which 63 swaps could be had one behind the other. */
     private static void sixtySwapsAtMost() {
-        int[] rgb = {
-            52, 219, 147, 30, 209, 109, 34, 255, 96, 146, 149, 176, 31, 167, 43, 61, 140, 8, 79, 165, 227,
-            123, 191, 179, 86, 141, 26, 102, 208, 13, 141, 220, 188, 30, 42, 204, 29, 36, 195, 235, 40, 103,
-            165, 251, 140, 165, 245, 123, 249, 154, 2, 109, 0, 130, 51, 181, 192, 169, 245, 99};
-        int[] eye = {254, 154, 4, -207, 190, 203, -199, -134, -30, 5, 5, 8};
-        int[] first = {0, 2, 4, 7};
-        Hues x = new Hues();
-        for (int i = 0; i < 20; i++) {
-            x.colour(rgb[3 * i], rgb[3 * i + 1], rgb[3 * i + 2]);
-        }
-        for (int k = 0; k < 12; k++) {
-            x.eye(0, k, eye[k]);
-        }
-        for (int i : first) {
-            x.fixes(i, 1);
-        }
-        x.fills(4);
-        for (int i : first) {
-            x.fixes(i, 0);
-        }
-        check.dueRow("to begin with", x, first);
+        Hues x = SwapsEdgeTest.longWay();
+        check.dueRow("to begin with", x, 0, 2, 4, 7);
         check.due("60 at most", x.swaps(), 60);
         check.due("three are left", x.swaps(), 3);
         check.due("none is left", x.swaps(), 0);

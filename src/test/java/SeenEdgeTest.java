@@ -11,6 +11,7 @@ public final class SeenEdgeTest {
         lightOfTheEnds();
         seenStepByStep();
         seenOfTheEnds();
+        seenAsMinusZero();
         distanceStepByStep();
         distanceOfTheEnds();
         weightsOfZero();
@@ -26,6 +27,8 @@ public final class SeenEdgeTest {
         gapIsReckonedAsAFloat();
         gapAtItsEnds();
         fitsNeedsAllThree();
+        fitsFollowsEachChange();
+        distancesFollowEachChange();
         check.end();
     }
 
@@ -77,6 +80,31 @@ public final class SeenEdgeTest {
         check.dueFloat("the nearest to 0", x.seen(3, 2, 2), 0.01f);
         check.dueFloat("R in row 0", x.seen(3, 2, 0), 3f);
         check.dueFloat("R in row 1", x.seen(3, 2, 1), -3f);
+    }
+
+    /** A sum of three products of which each is -0f is -0f; if one is not, it is another number. */
+    private static void seenAsMinusZero() {
+        for (int e = 0; e < 4; e++) {
+            for (int row = 0; row < 3; row++) {
+                Hues x = Hues.with(9, 9, 9, 0, 0, 0, 1, 0, 0, 0, 1, 0, 0, 0, 1);
+                for (int column = 0; column < 3; column++) {
+                    x.eye(e, 3 * row + column, -1);
+                }
+                for (int other = 0; other < 12; other++) {
+                    int due = other == 3 * e + row ? 1 << 31 : 0;
+                    check.due("EYE " + e + ", row " + row, x.seen(other / 3, 1, other % 3), due);
+                }
+                for (int i = 2; i < 5; i++) {
+                    check.dueFloat("not black", x.seen(e, i, row), -0.01f);
+                }
+                for (int column = 0; column < 3; column++) {
+                    x.eye(e, 3 * row + column, column == 1 ? 1 : 0);
+                    check.due("column " + column + " is not below 0", x.seen(e, 1, row), 0);
+                    x.eye(e, 3 * row + column, -300);
+                    check.due("column " + column + " is below 0", x.seen(e, 1, row), 1 << 31);
+                }
+            }
+        }
     }
 
     private static void distanceStepByStep() {
@@ -244,6 +272,11 @@ public final class SeenEdgeTest {
         int[] black = {0, 0, 0};
         int[] white = {255, 255, 255};
         int[] nearlyWhite = {255, 255, 254};
+        int[] nearlyBlack = {0, 0, 1};
+        check.due("just above THE GROUND, GAP 0", fitsByGap(nearlyBlack, black, 0), 1);
+        check.due("just above THE GROUND, GAP 1", fitsByGap(nearlyBlack, black, 1), 0);
+        check.due("just below THE GROUND, GAP 0", fitsByGap(black, nearlyBlack, 0), 1);
+        check.due("just below THE GROUND, GAP 1", fitsByGap(black, nearlyBlack, 1), 0);
         check.due("like THE GROUND, GAP 0", fitsByGap(white, white, 0), 1);
         check.due("like THE GROUND, GAP 1", fitsByGap(white, white, 1), 0);
         check.due("black on white, GAP 255", fitsByGap(black, white, 255), 1);
@@ -261,5 +294,46 @@ public final class SeenEdgeTest {
             x.sets(2, wrong == 2 ? 101 : 99);
             check.due("limit " + wrong + " is not kept", x.of(0, 4), wrong == 3 ? 1 : 0);
         }
+    }
+
+    /** Each getter is asked right behind the change, none before it that could have reckoned anew. */
+    private static void fitsFollowsEachChange() {
+        Hues x = Hues.with(100, 100, 100);
+        x.sets(2, 50);
+        check.due("GAP 50 on white", x.of(0, 4), 1);
+        x.ground(90, 90, 90);
+        check.due("another GROUND", x.of(0, 4), 0);
+        x.paints(0, 10, 10, 10);
+        check.due("other R, G, B", x.of(0, 4), 1);
+        x.sets(0, 11);
+        check.due("another LOW", x.count(1), 0);
+        x.back();
+        check.due("back", x.count(1), 1);
+        x.fixes(0, 1);
+        x.sets(2, 255);
+        check.due("a FIXED one FITS no more than others", x.of(0, 4), 0);
+        check.due("a FIXED one FITS no more than others", x.count(1), 0);
+    }
+
+    private static void distancesFollowEachChange() {
+        Hues x = Hues.reds(0, 10, 30);
+        x.choose(0, 1, 2);
+        check.due("nearest()", x.nearest(), 1);
+        x.paints(1, 25, 0, 0);
+        check.due("nearest() behind paints()", x.nearest(), 12);
+        x.back();
+        check.due("nearest() behind back()", x.nearest(), 1);
+        x.eye(0, 9, 2);
+        check.dueFloat("least() behind eye()", x.least(), 200f);
+        x.eye(0, 9, 3);
+        check.dueFloat("apart() behind eye()", x.apart(0, 1), 300f);
+        x.paints(1, 30, 0, 0);
+        check.due("best() behind paints()", x.best(2), 3);
+        x.paints(1, 29, 0, 0);
+        check.due("best() behind paints()", x.best(2), 5);
+        x.eye(0, 9, 1);
+        check.due("mistaken() behind eye()", x.mistaken(0, 2), 1);
+        x.paints(0, 30, 0, 0);
+        check.due("mistaken() behind paints()", x.mistaken(0, 2), 3);
     }
 }

@@ -352,47 +352,19 @@ public final class StatesEdgeTest {
         check.due("it counts itself", x.told(0), 2);
     }
 
-    private static long byHand(Hues x) {
-        long h = 2619;
-        for (int k = 0; k < 8; k++) {
-            h = 31 * h + x.told(k);
-        }
-        for (int k = 0; k < 8; k++) {
-            h = 31 * h + x.count(k);
-        }
-        int colours = x.count(0);
-        for (int i = 0; i < colours; i++) {
-            for (int k = 0; k < 6; k++) {
-                h = 31 * h + x.of(i, k);
-            }
-            h = 31 * h + x.light(i);
-        }
-        for (int e = 0; e < 4; e++) {
-            for (int k = 0; k < 13; k++) {
-                h = 31 * h + x.look(e, k);
-            }
-        }
-        int row = x.count(3);
-        for (int place = 0; place < row; place++) {
-            h = 31 * h + x.palette(place);
-        }
-        h = 31 * h + x.least();
-        return 31 * h + x.nearest();
-    }
-
     private static void digestOfAllSituations() {
         for (Situation situation : Situation.values()) {
             Hues x = situation.make();
-            check.due(situation + ": digest", x.digest(), byHand(x));
+            check.due(situation + ": digest", x.digest(), x.digestByHand());
         }
         Hues one = Hues.reds(9);
         one.fills(1);
-        check.due("one in THE PALETTE: NONE for nearest()", one.digest(), byHand(one));
+        check.due("one in THE PALETTE: NONE for nearest()", one.digest(), one.digestByHand());
         Hues below = Hues.reds(9, 19);
         for (int k = 0; k < 9; k++) {
             below.eye(k % 4, k, -1 - k);
         }
-        check.due("numbers below 0", below.digest(), byHand(below));
+        check.due("numbers below 0", below.digest(), below.digestByHand());
     }
 
     /** The answer of a new object, reckoned apart from the class with numbers of any size. */

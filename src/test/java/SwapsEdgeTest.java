@@ -153,7 +153,7 @@ public final class SwapsEdgeTest {
     }
 
     /** COLOURS found by a search, of which 63 swaps could be had one behind the other. */
-    private static Hues longWay() {
+    static Hues longWay() {
         Hues x = Hues.with(
             52, 219, 147, 30, 209, 109, 34, 255, 96, 146, 149, 176, 31, 167, 43, 61, 140, 8, 79, 165, 227,
             123, 191, 179, 86, 141, 26, 102, 208, 13, 141, 220, 188, 30, 42, 204, 29, 36, 195, 235, 40, 103,

@@ -231,7 +231,7 @@ public final class TextsTest {
 
     private static void digest() {
         Hues x = new Hues();
-        check.due("new", x.digest(), byHand(x));
+        check.due("new", x.digest(), x.digestByHand());
         x.colour(1, 200, 3);
         x.colour(255, 0, 255);
         x.colour(90, 90, 90);
@@ -242,36 +242,10 @@ public final class TextsTest {
         x.type(99);
         x.colour(-1, 0, 0);
         x.ground(3, 4, 5);
-        check.due("some", x.digest(), byHand(x));
+        check.due("some", x.digest(), x.digestByHand());
         long before = x.digest();
         check.due("twice", before, x.digest());
         x.type(99);
         check.due("another", x.digest() == before ? 1 : 0, 0);
-    }
-
-    private static long byHand(Hues x) {
-        long h = 2619;
-        for (int k = 0; k < 8; k++) {
-            h = 31 * h + x.told(k);
-        }
-        for (int k = 0; k < 8; k++) {
-            h = 31 * h + x.count(k);
-        }
-        for (int i = 0; i < x.count(0); i++) {
-            for (int k = 0; k < 6; k++) {
-                h = 31 * h + x.of(i, k);
-            }
-            h = 31 * h + x.light(i);
-        }
-        for (int e = 0; e < 4; e++) {
-            for (int k = 0; k < 13; k++) {
-                h = 31 * h + x.look(e, k);
-            }
-        }
-        for (int place = 0; place < x.count(3); place++) {
-            h = 31 * h + x.palette(place);
-        }
-        h = 31 * h + x.least();
-        return 31 * h + x.nearest();
     }
 }
